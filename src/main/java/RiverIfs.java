@@ -739,6 +739,7 @@ public final class RiverIfs {
         private final byte[] bytes = new byte[MOST_BYTES];
         private int length = 0;
         private int next = 0;
+        private int first = NONE;
         int size = 0;
         int place = 0;
         int kind = END;
@@ -761,7 +762,8 @@ public final class RiverIfs {
             while (place < length && isBlank(byteAt(place))) {
                 place++;
             }
-            kind = kindOf(byteAt(place));
+            first = byteAt(place);
+            kind = kindOf(first);
             next = Math.min(place + 1, length);
             if (kind == WORD || kind == NUMBER) {
                 while (next < length && kindOf(byteAt(next)) == kind) {
@@ -805,7 +807,7 @@ public final class RiverIfs {
         }
 
         boolean signIs(char sign) {
-            return kind == SIGN && byteAt(place) == sign;
+            return kind == SIGN && first == sign;
         }
 
         /** The NUMBER that stands here; NONE if it has too many digits. */
@@ -1280,17 +1282,14 @@ public final class RiverIfs {
             size++;
         }
 
-        private boolean brings(int one, int things) {
-            boolean all = (things & needs[one]) == needs[one];
-            return all != isIn(one, unless)
-                    && (things & bars[one]) == 0
-                    && !isIn(gives[one], things);
-        }
-
         /** The first IF, from a told one on, that brings something; NONE if none does. */
         int firstBringing(int things, int denied, int from) {
             for (int one = from; one < size; one++) {
-                if (!isIn(one, denied) && brings(one, things)) {
+                boolean allAreThere = (things & needs[one]) == needs[one];
+                if (allAreThere != isIn(one, unless)
+                        && (things & bars[one]) == 0
+                        && !isIn(gives[one], things)
+                        && !isIn(one, denied)) {
                     return one;
                 }
             }
@@ -1361,7 +1360,7 @@ public final class RiverIfs {
     /** What is asked of all sets of THINGS. An IF makes of a set a greater one, as bits. */
     private static final class Sets {
         private final int[] all = new int[ALL_SETS];
-        private final boolean[] reached = new boolean[ALL_SETS];
+        private final int[] reached = new int[ALL_SETS];
 
         private void fill(Ifs ifs, int denied) {
             for (int things = ALL_THINGS; things >= 0; things--) {
@@ -1405,11 +1404,11 @@ public final class RiverIfs {
 
         /** By how few IFS, in any order, a THING comes of some; NONE if it doesn't. */
         int fewestSteps(Ifs ifs, int denied, int from, int thing) {
-            Arrays.fill(reached, false);
-            reached[from] = true;
+            Arrays.fill(reached, 0);
+            reached[from] = 1;
             int fewest = NONE;
             for (int things = from; things < ALL_SETS; things++) {
-                if (!reached[things]) {
+                if (reached[things] == 0) {
                     continue;
                 }
                 if (isIn(thing, things)) {
@@ -1424,7 +1423,7 @@ public final class RiverIfs {
         private void reachOn(Ifs ifs, int denied, int things) {
             int one = ifs.firstBringing(things, denied, 0);
             for (int i = 0; i < MOST_IFS && one != NONE; i++) {
-                reached[things | 1 << ifs.gives[one]] = true;
+                reached[things | 1 << ifs.gives[one]] = 1;
                 one = ifs.firstBringing(things, denied, one + 1);
             }
         }
@@ -1533,11 +1532,12 @@ public final class RiverIfs {
     private static final class Seen {
         private final int[] people = new int[MOST_SEEN];
         private final int[] things = new int[MOST_SEEN];
-        private final boolean[] had = new boolean[MOST_SEEN];
+        private int had = 0;
         int size = 0;
 
         void clear() {
             size = 0;
+            had = 0;
         }
 
         boolean put(int person, int thing, boolean has) {
@@ -1546,14 +1546,14 @@ public final class RiverIfs {
             }
             people[size] = person;
             things[size] = thing;
-            had[size] = has;
+            had |= has ? 1 << size : 0;
             size++;
             return true;
         }
 
         boolean agrees(int person, int there) {
             for (int i = 0; i < size; i++) {
-                if (people[i] == person && isIn(things[i], there) != had[i]) {
+                if (people[i] == person && isIn(things[i], there) != isIn(i, had)) {
                     return false;
                 }
             }
@@ -1563,7 +1563,7 @@ public final class RiverIfs {
         void copyFrom(Seen other) {
             System.arraycopy(other.people, 0, people, 0, MOST_SEEN);
             System.arraycopy(other.things, 0, things, 0, MOST_SEEN);
-            System.arraycopy(other.had, 0, had, 0, MOST_SEEN);
+            had = other.had;
             size = other.size;
         }
     }
