@@ -82,6 +82,8 @@ public final class ExprTest {
         CHECK.same("every other", row(last), "1 0 1 0 1 ");
         last.sundays(1);
         CHECK.same("last", last.person(0, 7), 0);
+        RiverIfs one = Texts.river(ONE + "crosses last=1 or sunday=1;");
+        CHECK.same("last is 1", row(one), "0 1 1 1 1 ");
         CHECK.same("every other", row(last), "0 1 0 1 0 ");
         RiverIfs sunday = Texts.river(ONE + "crosses sunday=3;");
         CHECK.same("the fourth", row(sunday), "0 0 0 1 0 ");

@@ -27,6 +27,8 @@ public final class GameTest {
         // Alone 1, both 0: as staying, but together.
         CHECK.same("but together", rests("worth 0 1;worth 1 1;person 0 0 0 0;person 0 1 0 0;", 0, 1),
                 "3 0");
+        // Alone 4, both 2.
+        CHECK.same("half", rests("worth 0 4;worth 1 4;person 0 0 0 0;person 0 1 0 0;", 0, 1), "1 11");
         // Alone 15, and -3; both 9, and -1 + 2: as staying.
         CHECK.same("half is cut down to 0", rests(Texts.SMALL, 0, 2), "2 10");
         CHECK.same("half is cut down to 0", rests(Texts.SMALL, 2, 0), "2 1");
@@ -68,6 +70,11 @@ public final class GameTest {
         String text = "worth 0 3;worth 1 5;worth 2 - 4;worth 3 9;worth 4 1;person 1 1 0 15;"
                 + "person 6 0 2 4;person 0 4 1 9;person 0 9 0 30;person 1023 0 0 30;"
                 + "if 3 0 3;if 8 4 4;unless 1 0 2;if 16 0 9;bridge 2;";
+        yearsByActs(text);
+        yearsByActs("worth 0 3;worth 4 9;worth 7 - 2;person 16 1 0 15;if 3 0 3;if 16 0 4;");
+    }
+
+    private static void yearsByActs(String text) {
         for (int seed : new int[] {0, 1, 2, 3, 5, 77, -1, -12345, 1 << 30, Integer.MIN_VALUE}) {
             for (int n : new int[] {1, 2, 7, 60}) {
                 RiverIfs river = Texts.river(text);

@@ -29,7 +29,7 @@ public final class ImageTest {
         river.sundays(2);
         river.deny(2, true);
         river.bridge(3);
-        river.see(1, 1, true);
+        river.see(0, 3, true);
         river.bridge(0);
         Texts.shore(river, "x");
         String before = state(river);

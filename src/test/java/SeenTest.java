@@ -54,6 +54,10 @@ public final class SeenTest {
         told(river, 0, "1013 2 1");
         river.has(0, 2, true);
         told(river, 0, "1013 4 1");
+        river.forget();
+        river.see(1, 9, true);
+        CHECK.same("look of the one", river.look(0, 0) + " " + river.look(0, 1), "1 1");
+        CHECK.same("look of the other", river.look(1, 0) + " " + river.look(1, 1), "0 0");
         CHECK.noSuch("tells 2", () -> river.tells(2));
         CHECK.noSuch("tells -1", () -> river.tells(-1));
         CHECK.noSuch("look 2", () -> river.look(2, 0));

@@ -17,6 +17,7 @@ public final class StateTest {
         hasAndMiss();
         denyAndBridge();
         undone();
+        undoneOfEight();
         undoKeepsForty();
         CHECK.end();
     }
@@ -277,6 +278,32 @@ public final class StateTest {
         CHECK.same("no act was refused", river.count(13), 0);
         river.has(0, 9, false);
         CHECK.same("what is refused is no act", river.undo(), -1);
+    }
+
+    private static void undoneOfEight() {
+        CHECK.promise("14 undo, of eight");
+        StringBuilder text = new StringBuilder("if 1 0 1;crosses 1;bridge 8;");
+        for (int i = 0; i < 8; i++) {
+            text.append("person ").append(100 + i).append(" 9 ").append(i).append(" 9;");
+        }
+        RiverIfs river = Texts.river(text.toString());
+        river.deny(0, true);
+        river.sundays(7);
+        String before = all(river, 0) + all(river, 1) + longing(river) + flowers(river);
+        for (int i = 0; i < 8; i++) {
+            river.has(i, 9, true);
+            river.miss(i, i);
+        }
+        river.deny(0, false);
+        river.sundays(2);
+        for (int left = 19; left >= 2; left--) {
+            CHECK.same("undo", river.undo(), left);
+        }
+        CHECK.same("all", all(river, 0) + all(river, 1) + longing(river) + flowers(river), before);
+        CHECK.same("has", all(river, 0), "100 101 102 103 104 105 106 107 ");
+        CHECK.same("flowers", flowers(river), "7 7 7 7 7 7 7 7 ");
+        CHECK.same("counts", river.count(2) + " " + river.count(3) + " " + river.count(4) + " "
+                + river.count(5), "8 7 255 1");
     }
 
     private static void undoKeepsForty() {

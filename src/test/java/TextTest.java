@@ -11,6 +11,7 @@ public final class TextTest {
         expressions();
         nesting();
         readAsTold();
+        nothingIsLeft();
         CHECK.end();
     }
 
@@ -107,7 +108,7 @@ public final class TextTest {
             {"worth 1 - 1;", "0@-1"}, {"worth1-1;", "0@-1"}, {"worth 1--1;", "1@8"},
             {"worth -1 1;", "1@6"}, {"worth 1 -;", "1@9"}, {"worth\n1\n1\n;\n", "0@-1"},
             {"worth 1\t1;", "1@7"}, {"Worth 1 1;", "1@0"}, {"worths 1 1;", "1@0"},
-            {"wort 1 1;", "1@0"}, {"worth a 1;", "1@6"}, {"worthA", "1@5"},
+            {"wort 1 1;", "1@0"}, {"north 1 1;", "1@0"}, {"worthz 1 1;", "1@0"}, {"worth a 1;", "1@6"}, {"worthA", "1@5"},
             {"worth 10 1;", "2@6"}, {"worth 1 10;", "2@8"}, {"worth 1 - 10;", "2@10"},
             {"worth 9 9;worth 8 -9;worth 0 - 0;", "0@-1"}, {"worth 12345 1;", "2@6"},
             {"worth 00001 1;", "2@6"}, {"worth 0001 0009;", "0@-1"}, {"worth 1 99999999999;", "2@8"},
@@ -164,7 +165,9 @@ public final class TextTest {
             {"crosses (1", "1@10"}, {"crosses not;", "1@11"}, {"crosses not foo;", "3@12"},
             {"crosses 1=;", "1@10"}, {"crosses 1*;", "1@10"}, {"crosses 1 and", "1@13"},
             {"crosses longing+here-there*spared/sunday<flowers or last;", "0@-1"},
-            {"crosses longings;", "3@8"}, {"crosses long;", "3@8"}, {"crosses 1!2;", "1@9"},
+            {"crosses longings;", "3@8"}, {"crosses z;", "3@8"}, {"crosses a;", "3@8"},
+            {"crosses past;", "3@8"}, {"crosses lasz;", "3@8"}, {"crosses {1};", "1@8"},
+            {"crosses `1;", "1@8"}, {"crosses long;", "3@8"}, {"crosses 1!2;", "1@9"},
             {"crosses 1>2;", "1@9"}, {"crosses(1);", "0@-1"}, {"crosses 1or 0and 2;", "0@-1"},
             {"crosses 1+12345;", "2@10"}, {"crosses not 12345;", "2@12"},
         };
@@ -224,5 +227,27 @@ public final class TextTest {
         CHECK.same("unless", river.conditional(0, 3), 1);
         CHECK.same("again", Texts.shore(river, "if 1 0 2;"), 0);
         CHECK.same("if", river.conditional(0, 3), 0);
+    }
+
+    /** A text finds nothing of those ahead of it, good or bad. */
+    private static void nothingIsLeft() {
+        CHECK.promise("3 shore, nothing is left");
+        String full = "unless 5 2 9;unless 3 4 5;person 7 6 5 4;person 1 2 3 0;worth 9 - 9;worth 0 8;"
+                + "bridge 6;crosses 1;";
+        RiverIfs river = Texts.river(full);
+        for (int i = 0; i < 3; i++) {
+            CHECK.same("the same again", Texts.shore(river, full), 0);
+            CHECK.same("with a fault", Texts.shore(river, full + "x"), 1);
+        }
+        CHECK.same("another", Texts.shore(river, "person 1 2 3 0;if 1 0 0;"), 0);
+        CHECK.same("people", river.count(0), 1);
+        CHECK.same("ifs", river.count(1), 1);
+        CHECK.same("bridge", river.count(2), 4);
+        CHECK.same("if", river.conditional(0, 3), 0);
+        CHECK.same("worths", river.worth(9) + river.worth(0), 0);
+        CHECK.same("no rule", river.person(0, 7), 0);
+        CHECK.same("and back", Texts.shore(river, full), 0);
+        CHECK.same("the rule", river.person(1, 7), 1);
+        CHECK.same("unless", river.conditional(1, 3), 1);
     }
 }

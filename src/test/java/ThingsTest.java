@@ -119,6 +119,7 @@ public final class ThingsTest {
         CHECK.same("not back", chain.leads(3, 0), false);
         CHECK.same("not to itself", chain.leads(0, 0), false);
         CHECK.same("one of its needs is enough", Texts.river("if 3 0 9;").leads(1, 9), true);
+        CHECK.same("by two alike", Texts.river("if 1 0 9;if 1 0 9;").leads(0, 9), true);
         CHECK.same("bars do not lead", Texts.river("if 1 2 9;").leads(1, 9), false);
         CHECK.same("unless has needs, too", Texts.river("unless 1 0 9;").leads(0, 9), true);
         chain.deny(1, true);
@@ -149,6 +150,7 @@ public final class ThingsTest {
         CHECK.same("what never can", Texts.river("if 4 0 2;if 1 1 3;unless 0 0 5;").count(6), 7);
         CHECK.same("by a way between", Texts.river("if 1 0 1;if 2 0 2;if 1 0 2;").count(6), 4);
         CHECK.same("but for a bar", Texts.river("if 1 0 1;if 2 512 2;if 1 0 2;").count(6), 0);
+        CHECK.same("not of nothing", Texts.river("if 0 511 9;").count(6), 0);
         CHECK.same("whose turn never comes", Texts.river(BARRED).count(6), 2);
     }
 
@@ -162,8 +164,10 @@ public final class ThingsTest {
         ring.deny(2, true);
         CHECK.same("none", ring.count(8), -1);
         CHECK.same("by one", Texts.river("if 12 0 2;").count(8), 1);
+        CHECK.same("of the first thing", Texts.river("if 1 0 0;").count(8), 1);
         CHECK.promise("5 count, ends");
         CHECK.same("chain", Texts.river(CHAIN).count(7), 1);
+        CHECK.same("given twice", Texts.river("if 1 0 1;if 4 0 1;if 2 0 5;").count(7), 5);
         RiverIfs ends = Texts.river("if 3 4 5;if 32 0 0;unless 64 0 7;");
         CHECK.same("bars are no needs", ends.count(7), 66);
         ends.deny(1, true);
