@@ -64,6 +64,9 @@ public final class FaceTest {
             check.same(inner.getName(), Modifier.toString(inner.getModifiers()),
                     "private static final");
             check.same("fields of " + inner.getName(), fieldsOf(inner) <= 20, true);
+            for (Method m : inner.getDeclaredMethods()) {
+                check.same("the name of " + m, names.contains(m.getName()), false);
+            }
         }
         check.same("fields", fieldsOf(RiverIfs.class) <= 20, true);
         check.same("classes", RiverIfs.class.getDeclaredClasses().length + 1 <= 12, true);

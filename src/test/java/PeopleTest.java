@@ -68,6 +68,13 @@ public final class PeopleTest {
                 + sad.happiest(2), "1 1 1");
         RiverIfs spared = Texts.river("worth 0 - 5;worth 1 - 3;person 2 5 0 0;person 1 5 0 0;");
         CHECK.same("spared of the worst", spared.happiest(2) + " " + spared.happiest(0), "1 0");
+        RiverIfs each = Texts.river("worth 0 2;worth 1 3;worth 2 4;person 4 2 2 0;person 3 2 1 0;"
+                + "person 2 5 5 0;");
+        CHECK.same("each bank its own", each.happiest(0) + " " + each.happiest(1) + " "
+                + each.happiest(2), "1 1 2");
+        RiverIfs there = Texts.river("worth 0 2;worth 1 3;worth 2 4;person 3 9 9 0;person 1 2 0 0;");
+        CHECK.same("there alone", there.happiest(0) + " " + there.happiest(1) + " "
+                + there.happiest(2), "0 1 0");
         for (int what = 0; what < 3; what++) {
             CHECK.same("nobody", new RiverIfs().happiest(what), -1);
         }

@@ -54,10 +54,11 @@ public final class SeenTest {
         told(river, 0, "1013 2 1");
         river.has(0, 2, true);
         told(river, 0, "1013 4 1");
-        river.forget();
-        river.see(1, 9, true);
-        CHECK.same("look of the one", river.look(0, 0) + " " + river.look(0, 1), "1 1");
-        CHECK.same("look of the other", river.look(1, 0) + " " + river.look(1, 1), "0 0");
+        RiverIfs other = Texts.river(TWO);
+        CHECK.same("look of the one", other.look(0, 0) + " " + other.look(0, 1), "3 2");
+        other.see(1, 0, true);
+        CHECK.same("look of the other", other.look(1, 0) + " " + other.look(1, 1), "0 0");
+        CHECK.same("look of the one", other.look(0, 0) + " " + other.look(0, 1), "3 2");
         CHECK.noSuch("tells 2", () -> river.tells(2));
         CHECK.noSuch("tells -1", () -> river.tells(-1));
         CHECK.noSuch("look 2", () -> river.look(2, 0));

@@ -12,6 +12,7 @@ public final class TextTest {
         nesting();
         readAsTold();
         nothingIsLeft();
+        exampleOfReadme();
         CHECK.end();
     }
 
@@ -93,6 +94,16 @@ public final class TextTest {
         CHECK.same("has anew", river.person(0, 0), 1);
         CHECK.same("no act is left", river.undo(), -1);
         CHECK.same("no image is left", river.restore(), false);
+    }
+
+    private static void exampleOfReadme() {
+        CHECK.promise("README.md");
+        RiverIfs river = new RiverIfs();
+        river.feed(0x69662031, 0x20302033, 0x3b706572, 0x736f6e20, 0x31203220);
+        river.feed(0x30203132, 0x3b202020, 0x20202020, 0x20202020, 0x20202020);
+        CHECK.same("shore", river.shore(40), 0);
+        CHECK.same("there", river.person(0, 5), 13);
+        CHECK.same("crosses", river.crossing(1), 1);
     }
 
     private static void fault(String text, String due) {

@@ -103,6 +103,7 @@ public final class ThingsTest {
         pairs.deny(1, true);
         CHECK.same("not by what is denied", pairs.fewest(0, 0), 24);
         CHECK.same("fewer ahead of less", Texts.river("if 6 0 0;if 512 0 0;").fewest(0, 0), 512);
+        CHECK.same("all nine", Texts.river("if 1022 0 0;").fewest(0, 0), 1022);
         CHECK.same("barred", Texts.river("if 2 4 0;").fewest(4, 0), -1);
         CHECK.same("unless comes of nothing", Texts.river("unless 1 0 3;").fewest(0, 3), 0);
         CHECK.same("unless by no more", Texts.river("unless 1 0 3;").fewest(1, 3), -1);
