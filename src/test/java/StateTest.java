@@ -19,6 +19,7 @@ public final class StateTest {
         undone();
         undoneOfEight();
         undoKeepsForty();
+        allCallsOfAnObject();
         CHECK.end();
     }
 
@@ -326,6 +327,18 @@ public final class StateTest {
             river.undo();
         }
         CHECK.same("the first one stays", river.count(3), 1);
+    }
+
+    /** An object is used for 512 calls: the last ones answer as the first ones do. */
+    private static void allCallsOfAnObject() {
+        CHECK.promise("9, 14, up to the 512th call");
+        RiverIfs river = new RiverIfs();
+        river.feed(0x20202020, 0x20202020, 0x20202020, 0x20202020, 0x20202020);
+        river.shore(20);
+        for (int calls = 4; calls <= 512; calls += 2) {
+            CHECK.same("call " + (calls - 1), river.sundays(20), 20);
+            CHECK.same("call " + calls, river.undo(), 0);
+        }
     }
 
     private static String longing(RiverIfs river) {

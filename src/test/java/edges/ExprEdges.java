@@ -16,6 +16,7 @@ final class ExprEdges {
         division();
         tests();
         values();
+        countedValues();
     }
 
     private static int wants(String expr) {
@@ -86,9 +87,25 @@ final class ExprEdges {
         edges.same("who waited", last.person(1, 7), 0);
         last.undo();
         edges.same("undone", last.person(0, 7) + " " + last.person(1, 7), "1 1");
+        RiverIfs once = Texts.river("person 0 0 0 0;crosses sunday=0 or last=1;");
+        edges.same("just 1", once.crossing(2) + " " + once.crossing(60), "1 1");
         RiverIfs ahead = Texts.river("person 0 0 0 0;crosses sunday=0 or sunday=2 and last;");
         edges.same("not two SUNDAYS ahead", ahead.crossing(1) + " " + ahead.crossing(2) + " "
                 + ahead.crossing(3), "1 0 0");
+    }
+
+    private void countedValues() {
+        edges.of("Terms", "'sunday', 'flowers'");
+        holds("sunday=0", "flowers=0");
+        RiverIfs river = Texts.river("person 0 0 0 0;crosses sunday=flowers and sunday<3;");
+        edges.same("one more each SUNDAY", river.crossing(1) + " " + river.crossing(2) + " "
+                + river.crossing(3) + " " + river.crossing(4), "1 1 1 0");
+        RiverIfs full = Texts.river("person 0 0 0 0;crosses flowers<99;");
+        for (int i = 0; i < 5; i++) {
+            full.sundays(i == 4 ? 18 : 20);
+        }
+        edges.same("98", full.crossing(1) + " " + full.crossing(2), "1 0");
+        edges.same("longing up to 99", Texts.river("person 0 0 0 99;crosses longing=99;").person(0, 7), 1);
     }
 
     private void all(String text, String expr) {

@@ -128,7 +128,10 @@ final class PeopleEdges {
         edges.of("Terms 3", "BEST MISSED for one: the THING by which, were it MISSED, WORTH of THERE would "
                 + "be most (of like ones the least)");
         edges.same("all alike", Texts.river("person 0 9 0 0;").bestMissed(0), 0);
-        edges.same("the last", Texts.river("worth 9 1;person 0 0 0 0;").bestMissed(0), 9);
+        for (int thing = 0; thing < 10; thing++) {
+            edges.same("thing " + thing, Texts.river("worth " + thing + " 1;person 0 0 0 0;")
+                    .bestMissed(0), thing);
+        }
         edges.same("all others are worse", Texts.river("worth 0 - 1;worth 1 - 1;worth 2 - 1;person 0 0 0 0;")
                 .bestMissed(0), 3);
         RiverIfs river = Texts.river("worth 3 4;worth 5 4;worth 1 - 1;if 2 0 3;if 64 0 5;person 0 0 0 0;"

@@ -178,8 +178,12 @@ final class SeenEdges {
         edges.same("all is otherwise", all(full).equals(before), false);
         full.restore();
         edges.same("all is back", all(full), before);
+        // 43 ACTS: the first three are lost, then SUNDAYS and MISSED by turns, DENIED the last.
         for (int left = 39; left >= 0; left--) {
             edges.same("forty ACTS", full.undo(), left);
+            int acts = left + 3;
+            edges.same("as it was ahead of it", full.count(3) + " " + full.person(0, 1),
+                    (acts + 1) / 2 + " " + (1 + (acts / 2 - 1) % 9));
         }
         edges.same("none is left", full.undo(), -1);
         full.restore();
@@ -196,7 +200,7 @@ final class SeenEdges {
             river.miss(0, 1 + i % 9);
         }
         for (int i = 0; i < 9; i++) {
-            river.see(1, i, true);
+            river.see(1, 3, true);
         }
         river.deny(0, true);
         river.bridge(9);
@@ -214,7 +218,15 @@ final class SeenEdges {
         river.bridge(9);
         Texts.shore(river, "x");
         river.forget();
-        river.see(0, 0, false);
+        for (int i = 0; i < 8; i++) {
+            river.see(0, 9 - i, false);
+        }
+        for (int i = 0; i < 30; i++) {
+            river.undo();
+        }
+        for (int i = 0; i < 37; i++) {
+            river.has(1, 9, i % 2 == 0);
+        }
     }
 
     private static String all(RiverIfs river) {

@@ -368,6 +368,38 @@ final class StateEdges {
         edges.same("denied", river.undo() + " " + river.count(5) + river.person(0, 1), "2 03");
         edges.same("missed", river.undo() + " " + river.person(0, 1) + river.person(0, 0), "1 0512");
         edges.same("has", river.undo() + " " + river.person(0, 0), "0 0");
+        undoOfEight();
+    }
+
+    /** Of eight, of whom each has and longs for something else, all is undone. */
+    private void undoOfEight() {
+        StringBuilder text = new StringBuilder("if 1 0 1;bridge 8;crosses 1-last;");
+        for (int i = 0; i < 8; i++) {
+            text.append("person ").append(100 + i).append(" 9 ").append(i).append(' ').append(30 + i)
+                    .append(";");
+        }
+        RiverIfs river = Texts.river(text.toString());
+        river.deny(0, true);
+        river.sundays(7);
+        String before = row(river, 0) + row(river, 1) + row(river, 3) + row(river, 4) + counts(river);
+        edges.same("crossed, flowers", river.count(4) + " " + row(river, 4), "255 4 4 4 4 4 4 4 4 ");
+        for (int i = 0; i < 8; i++) {
+            river.has(i, 9, true);
+            river.miss(i, i);
+        }
+        river.deny(0, false);
+        river.bridge(1);
+        river.sundays(2);
+        edges.same("otherwise", row(river, 3).equals(row(Texts.river(text.toString()), 3)), false);
+        for (int left = 20; left >= 2; left--) {
+            edges.same("undo", river.undo(), left);
+        }
+        edges.same("all", row(river, 0) + row(river, 1) + row(river, 3) + row(river, 4)
+                + counts(river), before);
+        edges.same("the next SUNDAY, by who crossed on the last one", river.crossing(1), 0);
+        river.undo();
+        edges.same("longing, flowers", row(river, 3) + row(river, 4),
+                "30 31 32 33 34 35 36 37 0 0 0 0 0 0 0 0 ");
     }
 
     private static String row(RiverIfs river, int what) {

@@ -167,6 +167,7 @@ final class TextEdges {
         edges.fault("worth1 1;worths 2 2;", 1, 9);
         edges.fault("wor th 1 1;", 1, 0);
         edges.fault("wortH 1 1;", 1, 0);
+        edges.fault("north 1 1;", 1, 0);
         edges.fault("crosses 1 orlast;", 1, 10);
         edges.fine("crosses 1or last;");
         edges.of("Terms", "NUMBERS (1 to 4 digits)");
@@ -398,6 +399,7 @@ final class TextEdges {
         edges.same("it is empty", river.count(11), 0);
         edges.same("none of none", river.shore(0), 0);
         edges.same("anew", river.count(2), 4);
+        allAnew();
         edges.of("Promise 3", "or the FAULT (all stays, but STATUS)");
         RiverIfs old = busy();
         String before = stateOf(old);
@@ -424,6 +426,31 @@ final class TextEdges {
         edges.same("the image stays", kept.restore(), true);
         edges.same("all twenty", kept.shore(20) + " " + kept.count(2), "0 6");
         edges.illegal("one of none", () -> kept.shore(1));
+    }
+
+    /** The rows of texts that went ahead, good or bad, are used again: nothing of them is left. */
+    private void allAnew() {
+        String full = "unless 1 0 1;".repeat(12) + "worth 0 5;worth 9 - 9;bridge 8;crosses 1;"
+                + "person 2 2 2 2;".repeat(8);
+        RiverIfs river = Texts.river(full);
+        for (int round = 0; round < 3; round++) {
+            river.sundays(20);
+            river.deny(11, true);
+            edges.same("flowers, crossed", river.person(7, 4) + " " + river.count(4), "20 255");
+            edges.same("the same, all anew", Texts.shore(river, full), 0);
+            edges.same("flowers, longing", river.person(7, 4) + " " + river.person(7, 3), "0 2");
+            edges.same("sunday, crossed, denied", river.count(3) + " " + river.count(4) + " "
+                    + river.count(5), "0 0 0");
+        }
+        edges.same("a fault behind all of it", Texts.shore(river, full + "x"), 1);
+        edges.same("less", Texts.shore(river, "if 1 0 2;person 0 0 0 9;"), 0);
+        edges.same("people, ifs, bridge", river.count(0) + " " + river.count(1) + " " + river.count(2),
+                "1 1 4");
+        edges.same("worths", river.worth(0) + " " + river.worth(9), "0 0");
+        edges.same("no 'unless', no rule", river.conditional(0, 3) + " " + river.person(0, 7), "0 0");
+        edges.same("nothing", Texts.shore(river, ""), 0);
+        edges.same("people, ifs, bridge", river.count(0) + " " + river.count(1) + " " + river.count(2),
+                "0 0 4");
     }
 
     private static RiverIfs busy() {

@@ -146,6 +146,7 @@ final class ThingsEdges {
         edges.same("what it GIVES is needed", Texts.river("if 512 0 9;").count(6), 1);
         edges.same("unless without NEEDS", Texts.river("unless 0 0 9;").count(6), 1);
         edges.same("all twelve alike", Texts.river("if 1 0 9;".repeat(12)).count(6), 4095);
+        edges.same("another THING would come", Texts.river("if 1 4 1;if 1 2 2;").count(6), 2);
         RiverIfs two = Texts.river("if 1 0 9;if 1 0 9;");
         edges.same("each of two", two.count(6), 3);
         two.deny(1, true);
@@ -189,6 +190,10 @@ final class ThingsEdges {
         edges.same("none", ring.count(8), -1);
         edges.same("nine, a shorter one", Texts.river(ringOfTen() + "if 512 0 1;").count(8), 9);
         edges.same("one", Texts.river(ringOfTen() + "if 515 0 9;").count(8), 1);
+        for (int thing = 0; thing < 10; thing++) {
+            edges.same("of " + thing + " alone", Texts.river("if " + (1 << thing) + " 0 " + thing + ";")
+                    .count(8), 1);
+        }
         edges.same("none without NEEDS", Texts.river("if 0 1 0;").count(8), -1);
         edges.same("none without IFS", new RiverIfs().count(8), -1);
         edges.of("Terms 3", "ENDS: THINGS that no IF that isn't DENIED GIVES, but some NEEDS (bits)");

@@ -7,9 +7,28 @@ final class Check {
         Object answer();
     }
 
+    private static final long MOST_MILLIS = 300_000;
+
     private int wrong = 0;
     private int looked = 0;
-    private String about = "";
+    private volatile String about = "";
+
+    Check() {
+        Thread watch = new Thread(this::endLongRuns);
+        watch.setDaemon(true);
+        watch.start();
+    }
+
+    /** A call that doesn't end is not as due, either. */
+    private void endLongRuns() {
+        try {
+            Thread.sleep(MOST_MILLIS);
+        } catch (InterruptedException e) {
+            return;
+        }
+        System.out.println(about + ": a call doesn't end");
+        Runtime.getRuntime().halt(1);
+    }
 
     /** What the following answers belong to. */
     Check promise(String name) {
