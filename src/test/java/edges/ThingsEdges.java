@@ -79,6 +79,8 @@ final class ThingsEdges {
         edges.same("the shorter way", two.why(1, 2), 1);
         two.deny(0, true);
         edges.same("the longer way", two.why(1, 2), 2);
+        RiverIfs twelve = Texts.river("if 1 0 9;".repeat(11) + "if 1 0 8;");
+        edges.same("the twelfth, ahead of eleven that could, too", twelve.why(1, 8), 1);
         RiverIfs barred = Texts.river("if 1 2 3;if 1 8 1;");
         edges.same("in any order", barred.why(1, 1), 1);
         edges.same("barred", barred.why(9, 1), -1);
