@@ -12,7 +12,7 @@ public final class TextTest {
         nesting();
         readAsTold();
         nothingIsLeft();
-        exampleOfReadme();
+        fedAsNumbers();
         CHECK.end();
     }
 
@@ -96,8 +96,9 @@ public final class TextTest {
         CHECK.same("no image is left", river.restore(), false);
     }
 
-    private static void exampleOfReadme() {
-        CHECK.promise("README.md");
+    private static void fedAsNumbers() {
+        // "if 1 0 3;person 1 2 0 12;" and blanks behind it, written out as numbers
+        CHECK.promise("2 feed, 3 shore");
         RiverIfs river = new RiverIfs();
         river.feed(0x69662031, 0x20302033, 0x3b706572, 0x736f6e20, 0x31203220);
         river.feed(0x30203132, 0x3b202020, 0x20202020, 0x20202020, 0x20202020);
